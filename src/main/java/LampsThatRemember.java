@@ -649,7 +649,13 @@ public final class LampsThatRemember {
       return false;
     }
 
-    void keep(int who, int cell, int minute) {
+    /** The place of the scene that goes for a new one of a cell, though there may be room. */
+    int placeGivenUpFor(int cell) {
+      return NONE;
+    }
+
+    final void keep(int who, int cell, int minute) {
+      takeOut(placeGivenUpFor(cell));
       if (size >= room()) {
         takeOut(0);
       }
@@ -702,15 +708,6 @@ public final class LampsThatRemember {
     final int placeOfMinute(int minute) {
       for (int i = 0; i < size; i++) {
         if (Scene.minuteIn(sceneAt(i)) == minute) {
-          return i;
-        }
-      }
-      return NONE;
-    }
-
-    final int placeOfCell(int cell) {
-      for (int i = 0; i < size; i++) {
-        if (Scene.cellIn(sceneAt(i)) == cell) {
           return i;
         }
       }
@@ -803,9 +800,13 @@ public final class LampsThatRemember {
       return OVERLAID;
     }
 
-    void keep(int who, int cell, int minute) {
-      takeOut(placeOfCell(cell));
-      super.keep(who, cell, minute);
+    int placeGivenUpFor(int cell) {
+      for (int i = 0; i < size; i++) {
+        if (Scene.cellIn(sceneAt(i)) == cell) {
+          return i;
+        }
+      }
+      return NONE;
     }
   }
 
