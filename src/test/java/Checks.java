@@ -1,6 +1,10 @@
-/** Counts the answers that are not as due, and prints each of them. */
+import java.util.function.Consumer;
+
+/** Counts the answers that are not as due, and prints each of them, with the sentence that it breaks. */
 final class Checks {
   private final String name;
+  private String sentence = "";
+  private int tests;
   private int looked;
   private int wrong;
 
@@ -8,11 +12,23 @@ final class Checks {
     this.name = name;
   }
 
+  /** A test of its own for one sentence of the document, on a new object. */
+  void test(String ofSentence, Consumer<Told> body) {
+    sentence = ofSentence + ": ";
+    tests++;
+    try {
+      body.accept(new Told(this));
+    } catch (RuntimeException thrown) {
+      holds("nothing is thrown, but " + thrown, false);
+    }
+    sentence = "";
+  }
+
   void due(String call, long got, long want) {
     looked++;
     if (got != want) {
       wrong++;
-      System.out.println(name + ": " + call + " answered " + got + ", due is " + want);
+      System.out.println(name + ": " + sentence + call + " answered " + got + ", due is " + want);
     }
   }
 
@@ -20,7 +36,7 @@ final class Checks {
     looked++;
     if (!is) {
       wrong++;
-      System.out.println(name + ": does not hold: " + what);
+      System.out.println(name + ": " + sentence + "does not hold: " + what);
     }
   }
 
@@ -33,7 +49,8 @@ final class Checks {
   }
 
   void end() {
-    System.out.println(name + ": " + looked + " answers looked at, " + wrong + " not as due");
+    String told = tests == 0 ? "" : tests + " tests, ";
+    System.out.println(name + ": " + told + looked + " answers looked at, " + wrong + " not as due");
     if (wrong != 0) {
       System.exit(1);
     }
