@@ -468,7 +468,17 @@ public final class TermsTest {
           .town("lc" + twoDigits(cell) + "0;p20;p21;p22;p23;").due(20 + person, "lamp", 0, 1)
           .due(1, "lights", 0, 20 + person));
     }
-    t("'if he is there, else its own': nobody is", x -> x.town("lc350;").due(35, "lamp", 0, 1));
+    for (int cell = 32; cell <= 35; cell++) {
+      int own = cell;
+      t("'if he is there, else its own': nobody is, " + own, x -> x.town("lc" + own + "0;").due(own, "lamp", 0, 1));
+      t("'if he is there, else its own': he was, but not then, " + own, x -> {
+        x.town("lc" + own + "0;");
+        for (int person = 0; person < own % 4; person++) {
+          x.due(person, "person", 7);
+        }
+        x.due(0, "image").due(own % 4, "person", 14).due(14, "lamp", 0, 1).due(0, "on").due(own, "lamp", 0, 1);
+      });
+    }
     t("'its CELL is that of the PERSON': the least CELL, too", x -> x
         .town("lc010;p35;p00;").due(0, "lamp", 0, 1).due(1, "lights", 0, 0).due(0, "lights", 0, 1));
     t("'its CELL is that of the PERSON': its own may be a WALL", x -> x
